@@ -420,7 +420,7 @@ public final class TreeDiffer {
         final int[] values = new int[MAX_NODES];
         /** The root's parent is NONE; every other parent has a lower number than its child. */
         final int[] parents = new int[MAX_NODES];
-        /** Names that stay with the nodes while a patch changes their numbers. */
+        /** Names that stay with the nodes while a patch changes their numbers; each patch gives its own. */
         final int[] marks = new int[MAX_NODES];
         private final int[] hashes = new int[MAX_NODES];
         int count;
@@ -440,7 +440,6 @@ public final class TreeDiffer {
             System.arraycopy(other.keys, 0, keys, 0, MAX_NODES);
             System.arraycopy(other.values, 0, values, 0, MAX_NODES);
             System.arraycopy(other.parents, 0, parents, 0, MAX_NODES);
-            System.arraycopy(other.marks, 0, marks, 0, MAX_NODES);
             count = other.count;
         }
 

@@ -631,6 +631,10 @@ public final class PromiseTests {
             checks.thrown("23 no such node", BOUNDS, () -> x.twin(2, number, 0));
             checks.thrown("23 no such other tree", BOUNDS, () -> x.twin(0, 0, number));
         }
+        TreeDiffer y = with("a(z)", TWENTY, "a(z)");
+        checks.thrown("23 none among 20", ELEMENT, () -> y.twin(0, 1, 1));
+        y.removeNode(2, 1);
+        checks.thrown("23 a removed one is not found", ELEMENT, () -> y.twin(0, 1, 2));
     }
 
     private static void p24ShapeTwin() {
@@ -650,6 +654,10 @@ public final class PromiseTests {
             checks.thrown("24 no such node", BOUNDS, () -> x.shapeTwin(2, number, 0));
             checks.thrown("24 no such other tree", BOUNDS, () -> x.shapeTwin(0, 0, number));
         }
+        TreeDiffer z = with("a(b(c))", TWENTY, "a(b(c(d)))");
+        checks.thrown("24 none among 20", ELEMENT, () -> z.shapeTwin(0, 0, 1));
+        z.removeNode(2, 2);
+        checks.thrown("24 a removed one is not found", ELEMENT, () -> z.shapeTwin(0, 0, 2));
     }
 
     // ---- distances and scripts
@@ -740,12 +748,19 @@ public final class PromiseTests {
         checks.due("28 left over on the second side", "l1i2i3", () -> scriptOf("a(e)", "a(bcd)"));
         checks.due("28 the operations of a pair stand at its place", "d1v2d3i2d4i3",
                 () -> scriptOf("a(b#1c#2(d#1)e#3)", "a(c#2=1(d#2)f#4)"));
-        TreeDiffer y = with(TWENTY, "b(ccccccccccccccccccc)");
-        for (int node = 0; node < 20; node++) {
-            y.setValue(1, node, 1);
-        }
-        checks.due("28 as many operations as can be", 40, () -> y.diff(0, 1));
+        TreeDiffer y = new TreeDiffer();
+        checks.due("28 as many operations as can be", 40, () -> fullOfChanges(y));
         checks.due("28 as many operations as can be", 100, y::writeScript);
+    }
+
+    /** Makes the longest script: each of 20 nodes changes its label and its value. */
+    private static int fullOfChanges(TreeDiffer x) {
+        read(x, 0, TWENTY);
+        read(x, 1, "b(ccccccccccccccccccc)");
+        for (int node = 0; node < 20; node++) {
+            x.setValue(1, node, 1);
+        }
+        return x.diff(0, 1);
     }
 
     private static void p28DiffIsCanonical() {
@@ -1066,5 +1081,12 @@ public final class PromiseTests {
         TreeDiffer z = with(TWENTY, "a(" + "b".repeat(18) + "(c))", "a");
         z.diff(0, 1);
         checks.due("40 full trees", true, z::isConsistent);
+        z.diff(0, 0);
+        checks.due("40 an empty script", true, z::isConsistent);
+        checks.due("40 no operations", 0, z::operations);
+        fullOfChanges(z);
+        checks.due("40 as many operations as can be", true, z::isConsistent);
+        type(z, "x".repeat(80));
+        checks.due("40 80 characters in the buffer", true, z::isConsistent);
     }
 }
