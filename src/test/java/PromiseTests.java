@@ -1,16 +1,6 @@
-import java.util.NoSuchElementException;
-
 /** For each promise of the document: ordinary inputs, the edges that it names, and wrong inputs. */
-public final class PromiseTests {
+public final class PromiseTests extends DifferCalls {
     private static final Checks checks = new Checks("PromiseTests");
-    private static final Class<IndexOutOfBoundsException> BOUNDS = IndexOutOfBoundsException.class;
-    private static final Class<IllegalArgumentException> ARGUMENT = IllegalArgumentException.class;
-    private static final Class<IllegalStateException> STATE = IllegalStateException.class;
-    private static final Class<UnsupportedOperationException> UNSUPPORTED = UnsupportedOperationException.class;
-    private static final Class<NoSuchElementException> ELEMENT = NoSuchElementException.class;
-
-    private static final String TWENTY = "a(bbbbbbbbbbbbbbbbbbb)";
-    private static final String[] NO_TREE = {"-1", "3", "2147483647", "-2147483648"};
 
     public static void main(String[] args) {
         p01NewObject();
@@ -60,66 +50,6 @@ public final class PromiseTests {
         p39ConflictReason();
         p40IsConsistent();
         checks.close();
-    }
-
-    // ---- helpers
-
-    private static void type(TreeDiffer x, String text) {
-        for (int index = 0; index < text.length(); index++) {
-            x.type(text.charAt(index));
-        }
-    }
-
-    private static int read(TreeDiffer x, int tree, String text) {
-        type(x, text);
-        return x.read(tree);
-    }
-
-    /** A differ whose first trees have these texts. */
-    private static TreeDiffer with(String... texts) {
-        TreeDiffer x = new TreeDiffer();
-        for (int tree = 0; tree < texts.length; tree++) {
-            read(x, tree, texts[tree]);
-        }
-        return x;
-    }
-
-    private static String line(TreeDiffer x, int length) {
-        StringBuilder text = new StringBuilder();
-        for (int index = 0; index < length; index++) {
-            text.append(x.charAt(index));
-        }
-        return text.toString();
-    }
-
-    private static String tree(TreeDiffer x, int tree) {
-        return line(x, x.writeTree(tree));
-    }
-
-    private static String script(TreeDiffer x) {
-        return line(x, x.writeScript());
-    }
-
-    /** The script of two texts. */
-    private static String scriptOf(String first, String second) {
-        TreeDiffer x = with(first, second);
-        x.diff(0, 1);
-        return script(x);
-    }
-
-    /** The text of a third tree after the patch from the first to the second one, or how the patch failed. */
-    private static String patched(String first, String second, String third) {
-        TreeDiffer x = with(first, second, third);
-        x.diff(0, 1);
-        String answer = Checks.answerOf(() -> x.patch(2));
-        if (answer.equals("throws.UnsupportedOperationException")) {
-            return "" + x.conflictReason() + x.conflictOperation();
-        }
-        return answer + " " + tree(x, 2);
-    }
-
-    private static int noTree(int index) {
-        return Integer.parseInt(NO_TREE[index]);
     }
 
     // ---- a new object
@@ -180,8 +110,7 @@ public final class PromiseTests {
         checks.due("3 value 0 and 00", "a(bc=99)", () -> tree(x, 1));
         checks.due("3 a key of a cousin", 5, () -> read(x, 1, "a(b#1(c#1)d#9(c#1))"));
         type(x, "a(b)");
-        for (int index = 0; index < NO_TREE.length; index++) {
-            int tree = noTree(index);
+        for (int tree : NO_TREE) {
             checks.thrown("3 no such tree", BOUNDS, () -> x.read(tree));
         }
         checks.due("3 the buffer is not emptied then", 2, () -> x.read(0));
@@ -269,8 +198,7 @@ public final class PromiseTests {
         checks.due("5 the line is replaced", 1, () -> x.writeTree(1));
         checks.due("5 the line is replaced", 'm', () -> x.charAt(0));
         checks.thrown("5 the line is replaced", BOUNDS, () -> x.charAt(1));
-        for (int index = 0; index < NO_TREE.length; index++) {
-            int tree = noTree(index);
+        for (int tree : NO_TREE) {
             checks.thrown("5 no such tree", BOUNDS, () -> x.writeTree(tree));
         }
         checks.due("5 the line stays", 'm', () -> x.charAt(0));
@@ -345,8 +273,7 @@ public final class PromiseTests {
 
     private static void p08AddNodeRefusals() {
         TreeDiffer x = with("a(bc)", TWENTY);
-        for (int index = 0; index < NO_TREE.length; index++) {
-            int number = noTree(index);
+        for (int number : NO_TREE) {
             checks.thrown("8 no such tree", BOUNDS, () -> x.addNode(number, 0, 0, 'b'));
             checks.thrown("8 no such parent", BOUNDS, () -> x.addNode(0, number, 0, 'b'));
             checks.thrown("8 no such position", BOUNDS, () -> x.addNode(0, 0, number, 'b'));
@@ -374,8 +301,7 @@ public final class PromiseTests {
         checks.thrown("9 no such node any more", BOUNDS, () -> x.removeNode(0, 3));
         checks.thrown("9 the root", UNSUPPORTED, () -> x.removeNode(0, 0));
         checks.thrown("9 the root of a root", UNSUPPORTED, () -> x.removeNode(1, 0));
-        for (int index = 0; index < NO_TREE.length; index++) {
-            int number = noTree(index);
+        for (int number : NO_TREE) {
             checks.thrown("9 no such tree", BOUNDS, () -> x.removeNode(number, 0));
             checks.thrown("9 no such node", BOUNDS, () -> x.removeNode(1, number));
         }
@@ -392,8 +318,7 @@ public final class PromiseTests {
         checks.thrown("10 below 'a'", ARGUMENT, () -> x.setLabel(0, 0, '`'));
         checks.thrown("10 above 'z'", ARGUMENT, () -> x.setLabel(0, 0, '{'));
         checks.thrown("10 bounds before label", BOUNDS, () -> x.setLabel(0, 4, '{'));
-        for (int index = 0; index < NO_TREE.length; index++) {
-            int number = noTree(index);
+        for (int number : NO_TREE) {
             checks.thrown("10 no such tree", BOUNDS, () -> x.setLabel(number, 0, 'a'));
             checks.thrown("10 no such node", BOUNDS, () -> x.setLabel(1, number, 'a'));
         }
@@ -418,8 +343,7 @@ public final class PromiseTests {
         checks.thrown("11 the root, no key", UNSUPPORTED, () -> x.setKey(0, 0, 0));
         checks.thrown("11 range before root", ARGUMENT, () -> x.setKey(0, 0, 10));
         checks.thrown("11 bounds before range", BOUNDS, () -> x.setKey(0, 4, 10));
-        for (int index = 0; index < NO_TREE.length; index++) {
-            int number = noTree(index);
+        for (int number : NO_TREE) {
             checks.thrown("11 no such tree", BOUNDS, () -> x.setKey(number, 0, 1));
             checks.thrown("11 no such node", BOUNDS, () -> x.setKey(1, number, 1));
         }
@@ -435,8 +359,7 @@ public final class PromiseTests {
         checks.thrown("12 above 99", ARGUMENT, () -> x.setValue(0, 0, 100));
         checks.thrown("12 below 0", ARGUMENT, () -> x.setValue(0, 0, -1));
         checks.thrown("12 bounds before range", BOUNDS, () -> x.setValue(0, 2, 100));
-        for (int index = 0; index < NO_TREE.length; index++) {
-            int number = noTree(index);
+        for (int number : NO_TREE) {
             checks.thrown("12 no such tree", BOUNDS, () -> x.setValue(number, 0, 1));
             checks.thrown("12 no such node", BOUNDS, () -> x.setValue(1, number, 1));
         }
@@ -452,8 +375,7 @@ public final class PromiseTests {
         checks.due("13 the copied one stays", "a=1(b#2(c)d=3)", () -> tree(x, 0));
         checks.due("13 the same", 4, () -> x.copyTree(0, 0));
         checks.due("13 the same", "a=1(b#2(c)d=3)", () -> tree(x, 0));
-        for (int index = 0; index < NO_TREE.length; index++) {
-            int number = noTree(index);
+        for (int number : NO_TREE) {
             checks.thrown("13 no such tree", BOUNDS, () -> x.copyTree(number, 2));
             checks.thrown("13 no such tree", BOUNDS, () -> x.copyTree(0, number));
         }
@@ -465,8 +387,7 @@ public final class PromiseTests {
         checks.due("14 size", 4, () -> x.size(0));
         checks.due("14 20", 20, () -> x.size(1));
         checks.due("14 1", 1, () -> x.size(2));
-        for (int index = 0; index < NO_TREE.length; index++) {
-            int number = noTree(index);
+        for (int number : NO_TREE) {
             checks.thrown("14 no such tree", BOUNDS, () -> x.size(number));
         }
     }
@@ -477,8 +398,7 @@ public final class PromiseTests {
         checks.due("15 inside", 'q', () -> x.label(0, 2));
         checks.due("15 last", 'b', () -> x.label(0, 3));
         checks.thrown("15 behind the last", BOUNDS, () -> x.label(0, 4));
-        for (int index = 0; index < NO_TREE.length; index++) {
-            int number = noTree(index);
+        for (int number : NO_TREE) {
             checks.thrown("15 no such tree", BOUNDS, () -> x.label(number, 0));
             checks.thrown("15 no such node", BOUNDS, () -> x.label(2, number));
         }
@@ -491,8 +411,7 @@ public final class PromiseTests {
         checks.due("16 1", 1, () -> x.key(0, 2));
         checks.due("16 none", 0, () -> x.key(0, 3));
         checks.thrown("16 behind the last", BOUNDS, () -> x.key(0, 4));
-        for (int index = 0; index < NO_TREE.length; index++) {
-            int number = noTree(index);
+        for (int number : NO_TREE) {
             checks.thrown("16 no such tree", BOUNDS, () -> x.key(number, 0));
             checks.thrown("16 no such node", BOUNDS, () -> x.key(2, number));
         }
@@ -505,8 +424,7 @@ public final class PromiseTests {
         checks.due("17 two digits", 10, () -> x.value(0, 2));
         checks.due("17 none", 0, () -> x.value(0, 3));
         checks.thrown("17 behind the last", BOUNDS, () -> x.value(0, 4));
-        for (int index = 0; index < NO_TREE.length; index++) {
-            int number = noTree(index);
+        for (int number : NO_TREE) {
             checks.thrown("17 no such tree", BOUNDS, () -> x.value(number, 0));
             checks.thrown("17 no such node", BOUNDS, () -> x.value(2, number));
         }
@@ -521,8 +439,7 @@ public final class PromiseTests {
         checks.due("18 the last", 0, () -> x.children(0, 5));
         checks.due("18 19", 19, () -> x.children(1, 0));
         checks.thrown("18 behind the last", BOUNDS, () -> x.children(0, 6));
-        for (int index = 0; index < NO_TREE.length; index++) {
-            int number = noTree(index);
+        for (int number : NO_TREE) {
             checks.thrown("18 no such tree", BOUNDS, () -> x.children(number, 0));
             checks.thrown("18 no such node", BOUNDS, () -> x.children(2, number));
         }
@@ -537,8 +454,7 @@ public final class PromiseTests {
         checks.due("19 behind the deep one", 0, () -> x.parent(0, 5));
         checks.thrown("19 the root", ELEMENT, () -> x.parent(0, 0));
         checks.thrown("19 behind the last", BOUNDS, () -> x.parent(0, 6));
-        for (int index = 0; index < NO_TREE.length; index++) {
-            int number = noTree(index);
+        for (int number : NO_TREE) {
             checks.thrown("19 no such tree", BOUNDS, () -> x.parent(number, 0));
             checks.thrown("19 no such node", BOUNDS, () -> x.parent(2, number));
         }
@@ -552,8 +468,7 @@ public final class PromiseTests {
         checks.due("20 deep", 2, () -> x.subtreeSize(0, 3));
         checks.due("20 the last", 1, () -> x.subtreeSize(0, 5));
         checks.thrown("20 behind the last", BOUNDS, () -> x.subtreeSize(0, 6));
-        for (int index = 0; index < NO_TREE.length; index++) {
-            int number = noTree(index);
+        for (int number : NO_TREE) {
             checks.thrown("20 no such tree", BOUNDS, () -> x.subtreeSize(number, 0));
             checks.thrown("20 no such node", BOUNDS, () -> x.subtreeSize(2, number));
         }
@@ -575,8 +490,7 @@ public final class PromiseTests {
         int overflown = chain;
         checks.due("21 with overflow", overflown, () -> x.subtreeHash(1, 0));
         checks.thrown("21 behind the last", BOUNDS, () -> x.subtreeHash(0, 4));
-        for (int index = 0; index < NO_TREE.length; index++) {
-            int number = noTree(index);
+        for (int number : NO_TREE) {
             checks.thrown("21 no such tree", BOUNDS, () -> x.subtreeHash(number, 0));
             checks.thrown("21 no such node", BOUNDS, () -> x.subtreeHash(2, number));
         }
@@ -608,8 +522,7 @@ public final class PromiseTests {
         checks.due("22 a root and a leaf", true, () -> x.areEqual(2, 0, 0, 5));
         checks.thrown("22 behind the last", BOUNDS, () -> x.areEqual(0, 6, 1, 0));
         checks.thrown("22 behind the last", BOUNDS, () -> x.areEqual(0, 0, 1, 2));
-        for (int index = 0; index < NO_TREE.length; index++) {
-            int number = noTree(index);
+        for (int number : NO_TREE) {
             checks.thrown("22 no such tree", BOUNDS, () -> x.areEqual(number, 0, 0, 0));
             checks.thrown("22 no such node", BOUNDS, () -> x.areEqual(2, number, 0, 0));
             checks.thrown("22 no such other tree", BOUNDS, () -> x.areEqual(0, 0, number, 0));
@@ -625,8 +538,7 @@ public final class PromiseTests {
         checks.thrown("23 another key", ELEMENT, () -> x.twin(0, 3, 1));
         checks.thrown("23 none", ELEMENT, () -> x.twin(0, 0, 1));
         checks.thrown("23 behind the last", BOUNDS, () -> x.twin(0, 5, 1));
-        for (int index = 0; index < NO_TREE.length; index++) {
-            int number = noTree(index);
+        for (int number : NO_TREE) {
             checks.thrown("23 no such tree", BOUNDS, () -> x.twin(number, 0, 0));
             checks.thrown("23 no such node", BOUNDS, () -> x.twin(2, number, 0));
             checks.thrown("23 no such other tree", BOUNDS, () -> x.twin(0, 0, number));
@@ -648,8 +560,7 @@ public final class PromiseTests {
         checks.thrown("24 the same size, another shape", ELEMENT, () -> y.shapeTwin(0, 0, 1));
         checks.thrown("24 the children the other way round", ELEMENT, () -> y.shapeTwin(0, 0, 2));
         checks.thrown("24 behind the last", BOUNDS, () -> x.shapeTwin(0, 4, 1));
-        for (int index = 0; index < NO_TREE.length; index++) {
-            int number = noTree(index);
+        for (int number : NO_TREE) {
             checks.thrown("24 no such tree", BOUNDS, () -> x.shapeTwin(number, 0, 0));
             checks.thrown("24 no such node", BOUNDS, () -> x.shapeTwin(2, number, 0));
             checks.thrown("24 no such other tree", BOUNDS, () -> x.shapeTwin(0, 0, number));
@@ -693,8 +604,7 @@ public final class PromiseTests {
         TreeDiffer x = with(TWENTY, "a");
         checks.due("25 20 nodes", 38, () -> x.distance(0, 1));
         checks.due("25 the same tree", 0, () -> x.distance(0, 0));
-        for (int index = 0; index < NO_TREE.length; index++) {
-            int number = noTree(index);
+        for (int number : NO_TREE) {
             checks.thrown("25 no such tree", BOUNDS, () -> x.distance(number, 0));
             checks.thrown("25 no such tree", BOUNDS, () -> x.distance(0, number));
         }
@@ -707,8 +617,7 @@ public final class PromiseTests {
         checks.thrown("26 8 nodes", UNSUPPORTED, () -> x.distanceByMatchings(1, 0));
         checks.thrown("26 8 nodes", UNSUPPORTED, () -> x.distanceByMatchings(0, 1));
         checks.thrown("26 8 nodes twice", UNSUPPORTED, () -> x.distanceByMatchings(1, 1));
-        for (int index = 0; index < NO_TREE.length; index++) {
-            int number = noTree(index);
+        for (int number : NO_TREE) {
             checks.thrown("26 no such tree", BOUNDS, () -> x.distanceByMatchings(number, 0));
             checks.thrown("26 no such tree", BOUNDS, () -> x.distanceByMatchings(0, number));
             checks.thrown("26 bounds before size", BOUNDS, () -> x.distanceByMatchings(1, number));
@@ -723,8 +632,7 @@ public final class PromiseTests {
         TreeDiffer y = with("a", "z=1", "b(a(aaa)a)");
         checks.due("27 roots", 0.0, () -> y.similarity(0, 1));
         checks.due("27 thirds", 1.0 - 13.0 / 14.0, () -> y.similarity(0, 2));
-        for (int index = 0; index < NO_TREE.length; index++) {
-            int number = noTree(index);
+        for (int number : NO_TREE) {
             checks.thrown("27 no such tree", BOUNDS, () -> x.similarity(number, 0));
             checks.thrown("27 no such tree", BOUNDS, () -> x.similarity(0, number));
         }
@@ -737,8 +645,7 @@ public final class PromiseTests {
         checks.due("28 the same tree", 0, () -> x.diff(0, 0));
         checks.due("28 the latest script", 0, x::operations);
         x.diff(0, 1);
-        for (int index = 0; index < NO_TREE.length; index++) {
-            int number = noTree(index);
+        for (int number : NO_TREE) {
             checks.thrown("28 no such tree", BOUNDS, () -> x.diff(number, 0));
             checks.thrown("28 no such tree", BOUNDS, () -> x.diff(0, number));
         }
@@ -751,16 +658,6 @@ public final class PromiseTests {
         TreeDiffer y = new TreeDiffer();
         checks.due("28 as many operations as can be", 40, () -> fullOfChanges(y));
         checks.due("28 as many operations as can be", 100, y::writeScript);
-    }
-
-    /** Makes the longest script: each of 20 nodes changes its label and its value. */
-    private static int fullOfChanges(TreeDiffer x) {
-        read(x, 0, TWENTY);
-        read(x, 1, "b(ccccccccccccccccccc)");
-        for (int node = 0; node < 20; node++) {
-            x.setValue(1, node, 1);
-        }
-        return x.diff(0, 1);
     }
 
     private static void p28DiffIsCanonical() {
@@ -792,13 +689,6 @@ public final class PromiseTests {
         checks.due("28 another key is no move", "d2i3", () -> scriptOf("a(b#1(m#8)c#2)", "a(b#1c#2(m#9))"));
         checks.due("28 another value is no move", "d2i3", () -> scriptOf("a(b#1(m=8)c#2)", "a(b#1c#2(m=9))"));
         checks.due("28 a part of a deletion is no move", "d1i2", () -> scriptOf("a(b#1(m)c#2)", "a(c#2(m))"));
-    }
-
-    /** A script with all kinds of operations. */
-    private static TreeDiffer allKinds() {
-        TreeDiffer x = with("a(b#1c#2(x#9)d#3e#4(y))", "a=1(k#6q#1c#2=1d#3(x#9)f#5)");
-        x.diff(0, 1);
-        return x;
     }
 
     private static void p29Operations() {
@@ -942,8 +832,7 @@ public final class PromiseTests {
         checks.thrown("37 no tree before no script", BOUNDS, () -> x.patch(3));
         checks.thrown("37 no script", STATE, () -> x.patch(0));
         x.diff(0, 0);
-        for (int index = 0; index < NO_TREE.length; index++) {
-            int number = noTree(index);
+        for (int number : NO_TREE) {
             checks.thrown("37 no such tree", BOUNDS, () -> x.patch(number));
         }
         checks.due("37 an empty script", 1, () -> x.patch(1));
