@@ -1,14 +1,10 @@
 /**
  * Every sentence of the document that names a boundary, on the side that is still accepted and one step behind it:
- * smallest and greatest, empty and full, overflow, nothing left. The promise's number, or "T" for the terms, stands
- * first in each line. RefusalTests looks at the calls that are refused.
+ * smallest and greatest, empty and full, overflow, nothing left. The promise's number stands first in each line.
+ * ScriptBoundaryTests has the scripts and patches, RefusalTests the calls that are refused.
  */
 public final class BoundaryTests extends DifferCalls {
     private static final Checks checks = new Checks("BoundaryTests");
-    private static final String CHAIN = "a(b(c(d(e(f(g(h(i(j(k(l(m(n(o(p(q(r(s(t)))))))))))))))))))";
-    /** As deep as the other chain, but no node below its root can be a pair with one of that. */
-    private static final String KEYED_CHAIN = "a(b#1(c(d(e(f(g(h(i(j(k(l(m(n(o(p(q(r(s(t)))))))))))))))))))";
-    private static final String NINETEEN = "a(bbbbbbbbbbbbbbbbbb)";
 
     /** A call of a new differ with a character. */
     private interface CharacterUse {

@@ -8,7 +8,14 @@ abstract class DifferCalls {
     static final Class<UnsupportedOperationException> UNSUPPORTED = UnsupportedOperationException.class;
     static final Class<NoSuchElementException> ELEMENT = NoSuchElementException.class;
 
+    /** Trees of so many nodes. */
+    static final String EIGHTEEN = "a(bbbbbbbbbbbbbbbbb)";
+    static final String NINETEEN = "a(bbbbbbbbbbbbbbbbbb)";
     static final String TWENTY = "a(bbbbbbbbbbbbbbbbbbb)";
+    /** 20 nodes, as deep as they can be. */
+    static final String CHAIN = "a(b(c(d(e(f(g(h(i(j(k(l(m(n(o(p(q(r(s(t)))))))))))))))))))";
+    /** Just as deep, but no node below the root can be a pair with one of the other chain. */
+    static final String KEYED_CHAIN = "a(b#1(c(d(e(f(g(h(i(j(k(l(m(n(o(p(q(r(s(t)))))))))))))))))))";
     /** Numbers of no tree; the greater ones would be trees if they were cut to a byte or a short. */
     static final int[] NO_TREE = {-1, 3, 256, 65536, Integer.MAX_VALUE, Integer.MIN_VALUE};
 

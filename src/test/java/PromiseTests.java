@@ -104,7 +104,7 @@ public final class PromiseTests extends DifferCalls {
         checks.due("3 all parts", "a=7(b#4=5(c=3d)b#5(e#4(f)))", () -> tree(x, 2));
         checks.due("3 the other trees stay", "a", () -> tree(x, 1));
         checks.due("3 20 nodes", 20, () -> read(x, 1, TWENTY));
-        checks.due("3 a chain of 20 nodes", 20, () -> read(x, 1, "a(b(c(d(e(f(g(h(i(j(k(l(m(n(o(p(q(r(s(t)))))))))))))))))))"));
+        checks.due("3 a chain of 20 nodes", 20, () -> read(x, 1, CHAIN));
         checks.due("3 the chain's last node", 18, () -> x.parent(1, 19));
         checks.due("3 value 0 and 00", 3, () -> read(x, 1, "a=0(b=00c=99)"));
         checks.due("3 value 0 and 00", "a(bc=99)", () -> tree(x, 1));

@@ -5,11 +5,6 @@
  */
 public final class ScriptBoundaryTests extends DifferCalls {
     private static final Checks checks = new Checks("ScriptBoundaryTests");
-    private static final String CHAIN = "a(b(c(d(e(f(g(h(i(j(k(l(m(n(o(p(q(r(s(t)))))))))))))))))))";
-    /** As deep as the other chain, but no node below its root can be a pair with one of that. */
-    private static final String KEYED_CHAIN = "a(b#1(c(d(e(f(g(h(i(j(k(l(m(n(o(p(q(r(s(t)))))))))))))))))))";
-    private static final String NINETEEN = "a(bbbbbbbbbbbbbbbbbb)";
-    private static final String EIGHTEEN = "a(bbbbbbbbbbbbbbbbb)";
     private static final String NINE_KEYS = "a(b#1b#2b#3b#4b#5b#6b#7b#8b#9)";
 
     public static void main(String[] args) {
@@ -77,6 +72,8 @@ public final class ScriptBoundaryTests extends DifferCalls {
         scriptIs("i2i3", "a(b)", "a(bcd)");
         scriptIs("d2d3v4", "a(b(cd)e)", "a(be=1)");
         scriptIs("i2i3v2", "a(be)", "a(b(cd)e=1)");
+        scriptIs("i2i3i4i5i6i7i8i9i10i11i12i13i14i15i16i17i18i19d2", "a(b#1c#2)", "a(b#1(xxxxxxxxxxxxxxxxxx))");
+        scriptIs("d2d3d4d5d6d7d8d9d10d11d12d13d14d15d16d17d18d19i2", "a(b#1(xxxxxxxxxxxxxxxxxx))", "a(b#1c#2)");
         // "A deletion and an insertion concern the whole subtree of the child".
         scriptIs("d1", CHAIN, "a");
         scriptIs("i1", "a", CHAIN);
@@ -260,6 +257,7 @@ public final class ScriptBoundaryTests extends DifferCalls {
         patchIs("7 a(k#8m#9(n)b#1zc#2)", "a(b#1c#2(m#9))", "a(k#8m#9b#1c#2)", "a(b#1zc#2(m#9(n)))");
         patchIs("5 a(c#2(x)b#1z)", "a(b#1c#2(x))", "a(c#2(x)b#1)", "a(b#1c#2(x)z)");
         patchIs("6 a(b#1(n#8)c#2(m#9)z)", "a(b#1(m#9)c#2(n#8))", "a(b#1(n#8)c#2(m#9))", "a(b#1(m#9)c#2(n#8)z)");
+        patchIs("6 a(x(y)wb#1c#2)", "a(b#1)", "a(x(y)b#1c#2)", "a(wb#1)");
         // "A copy of the inserted subtree": the next patch puts in another one.
         TreeDiffer x = with("a", "a(b(c))", "a(z)");
         x.diff(0, 1);
