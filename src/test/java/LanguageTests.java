@@ -53,8 +53,7 @@ public final class LanguageTests {
 
     private static void checkWords(String code) {
         for (String banned : BANNED) {
-            boolean isWord = Character.isLetter(banned.charAt(0)) && Character.isLetter(banned.charAt(banned.length() - 1));
-            String pattern = isWord ? "\\b" + banned + "\\b" : Pattern.quote(banned);
+            String pattern = banned.matches("[A-Za-z]+") ? "\\b" + banned + "\\b" : Pattern.quote(banned);
             checks.due("4, 6, 10 no '" + banned + "'", false, () -> Pattern.compile(pattern).matcher(code).find());
         }
         for (String line : code.split("\n")) {
